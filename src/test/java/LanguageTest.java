@@ -1,3 +1,5 @@
+import com.sun.source.tree.ArrayAccessTree;
+import com.sun.source.tree.BinaryTree;
 import com.sun.source.tree.ClassTree;
 import com.sun.source.tree.CompilationUnitTree;
 import com.sun.source.tree.MethodInvocationTree;
@@ -28,6 +30,7 @@ public final class LanguageTest {
             Tree.Kind.TYPE_CAST, Tree.Kind.INSTANCE_OF, Tree.Kind.IMPORT, Tree.Kind.PACKAGE, Tree.Kind.ANNOTATION,
             Tree.Kind.FLOAT_LITERAL, Tree.Kind.DOUBLE_LITERAL, Tree.Kind.DIVIDE_ASSIGNMENT, Tree.Kind.REMAINDER_ASSIGNMENT);
     private static final Set<String> LIBRARY = Set.of("Math.abs", "Math.max", "word.length", "word.charAt");
+    private static final Set<String> INDEX_TESTED_IN = Set.of("at", "put", "copyRow", "add", "byteAt");
     private static final int MOST_LINES = 60, MOST_PARAMETERS = 7, MOST_CLASSES = 12, MOST_FIELDS = 20, MOST_DEEP = 8;
 
     public static void main(String[] args) throws Exception {
@@ -124,6 +127,20 @@ public final class LanguageTest {
                 calls.get(method).add(called.substring(called.lastIndexOf('.') + 1));
             }
             return super.visitMethodInvocation(tree, nothing);
+        }
+
+        @Override
+        public Void visitArrayAccess(ArrayAccessTree tree, Void nothing) {
+            Check.holds(where(tree) + "indexes are used where they are tested", INDEX_TESTED_IN.contains(method));
+            return super.visitArrayAccess(tree, nothing);
+        }
+
+        @Override
+        public Void visitBinary(BinaryTree tree, Void nothing) {
+            boolean divides = tree.getKind() == Tree.Kind.DIVIDE || tree.getKind() == Tree.Kind.REMAINDER;
+            Check.holds(where(tree) + "a divisor is a number, or tested in draw", !divides
+                    || tree.getRightOperand().getKind() == Tree.Kind.INT_LITERAL || "draw".equals(method));
+            return super.visitBinary(tree, nothing);
         }
 
         @Override

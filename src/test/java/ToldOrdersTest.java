@@ -176,6 +176,10 @@ public final class ToldOrdersTest {
         x.law(0);
         x.stones(0, 9);
         Check.due("judge() with stones", x.judge(), 4);
+        x.tear();
+        x.write(2, 4);
+        x.write(1, 6);
+        Check.due("judge() of the first entry", x.judge(), 0);
     }
 
     private static void seed() {
@@ -198,11 +202,13 @@ public final class ToldOrdersTest {
         x.stones(0, 2);
         x.law(1);
         x.price(7);
-        x.seed(99);
+        x.seed(10);
         x.drift(1);
         x.stones(2, 8);
         int weight = x.letter(1, 1);
+        // the seed is chosen so that this one is drawn another PLACE than it had
         int goal = x.letter(2, 0);
+        Check.due("PLACE drawn", goal, 0);
         Check.due("keep(1)", x.keep(1), 1);
         Check.due("goBack(0)", x.goBack(0), 1);
         Check.due("W", x.letter(1, 1), 50);
