@@ -1,18 +1,43 @@
+import java.util.HashSet;
+import java.util.Set;
+
 /** What every test here uses: counts answers that are not due, and ends with exit code 1 if there was one. */
 final class Check {
     static final int NONE = -1, UNKNOWN = -1000000001, OUTSIDE = -1000000002, NOT = -1000000003, FULL = -1000000004;
 
     private static int asked = 0;
     private static int wrong = 0;
+    private static final Set<String> SENTENCES = new HashSet<>();
+    private static int askedBefore = 0;
+    private static String under = "";
 
     private Check() {
+    }
+
+    /** The document's words that the answers from here on are held against. */
+    static void sentence(String words) {
+        closeSentence();
+        SENTENCES.add(words);
+        under = words;
+        askedBefore = asked;
+    }
+
+    private static void closeSentence() {
+        if (!under.isEmpty() && asked == askedBefore) {
+            wrong++;
+            System.out.println("nothing was asked under: " + under);
+        }
+    }
+
+    private static String place() {
+        return under.isEmpty() ? "" : "[" + under + "] ";
     }
 
     static void due(String call, long got, long want) {
         asked++;
         if (got != want) {
             wrong++;
-            System.out.println(call + " answered " + got + ", due is " + want);
+            System.out.println(place() + call + " answered " + got + ", due is " + want);
         }
     }
 
@@ -20,7 +45,7 @@ final class Check {
         asked++;
         if (!so) {
             wrong++;
-            System.out.println("does not hold: " + what);
+            System.out.println(place() + "does not hold: " + what);
         }
     }
 
@@ -47,8 +72,21 @@ final class Check {
         return x;
     }
 
+    /** A text that a new object refuses to make a town of, by this fault at this byte. */
+    static void fault(String text, int number, int where) {
+        HeaviestFirst x = new HeaviestFirst();
+        feed(x, text);
+        due("town() of '" + text + "'", x.town(), -10 - number);
+        due("fault() of '" + text + "'", x.fault(), where);
+        due("PLACES behind '" + text + "'", x.told(0), 0);
+        due("LETTERS behind '" + text + "'", x.told(1), 0);
+        due("bytes behind '" + text + "'", x.told(3), 0);
+    }
+
     static void end(String test) {
-        System.out.println(test + ": " + asked + " answers, " + wrong + " not as due");
+        closeSentence();
+        System.out.println(test + ": " + asked + " answers" + (SENTENCES.isEmpty() ? "" : " under " + SENTENCES.size() + " sentences")
+                + ", " + wrong + " not as due");
         if (wrong > 0) {
             System.exit(1);
         }

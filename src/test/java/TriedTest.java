@@ -14,7 +14,6 @@ public final class TriedTest {
         answerOfLikeOnes();
         rests();
         restsNever();
-        restsByTheThirtieth();
         restsIsFresh();
         best();
         agreed();
@@ -254,43 +253,6 @@ public final class TriedTest {
         x.price(50);
         Check.due("at 50 nobody takes any", x.rests(-1), 1);
         Check.due("at 50 nobody takes any", x.rests(-2), 50);
-    }
-
-    /** Long ways to a rest, found by search: 29 rounds that change something and one that does not are 30. */
-    private static void restsByTheThirtieth() {
-        String heaviest = "place 39 65;place 77 55;place 1 47;place 47 12;place 60 58;place 58 82;place 83 69;"
-                + "letter 3 2 204 43;letter 2 2 370 59;letter 2 3 244 72;letter 4 11 464 69;letter 2 3 642 82;"
-                + "letter 0 3 288 89;letter 6 3 223 57;stone 1;";
-        Check.due("29 by LAW 0", withStones(heaviest, 0, 9, 9, 4, 8, 2, 9, 9).rests(-1), 29);
-        String turns = "place 74 85;place 46 9;place 8 62;place 11 36;place 3 84;place 5 8;place 68 66;"
-                + "letter 3 10 187 38;letter 1 9 317 98;letter 1 5 138 22;letter 6 11 349 80;letter 5 12 162 81;"
-                + "letter 4 7 450 29;letter 5 5 517 27;stone 2;";
-        Check.due("29 by LAW 2", withStones(turns, 2, 4, 7, 2, 3, 8, 8, 3).rests(-1), 29);
-        String longer = "place 95 60;place 10 83;place 61 75;place 42 98;place 1 33;place 67 8;place 93 14;"
-                + "letter 3 5 515 12;letter 0 7 124 89;letter 2 4 504 92;letter 4 5 319 29;letter 6 5 364 46;"
-                + "letter 3 6 164 51;letter 1 6 482 22;stone 1;";
-        HeaviestFirst x = withStones(longer, 0, 4, 9, 9, 7, 8, 7, 7);
-        for (int l = -3; l < 7; l++) {
-            Check.due("30 that change something: rests(" + l + ")", x.rests(l), Check.NONE);
-        }
-        // one round played by hand leaves 29
-        for (int l = 0; l < 7; l++) {
-            x.stones(l, x.answer(l));
-        }
-        Check.due("a round later", x.rests(-1), 29);
-        String longest = "place 18 96;place 84 32;place 71 91;place 20 34;place 51 0;place 83 74;place 7 60;"
-                + "letter 5 7 490 73;letter 0 8 32 14;letter 6 8 91 73;letter 4 8 287 46;letter 3 8 136 64;"
-                + "letter 2 8 338 73;letter 6 8 379 84;stone 5;";
-        Check.due("31 that change something", withStones(longest, 0, 1, 2, 4, 7, 2, 8, 6).rests(-1), Check.NONE);
-    }
-
-    private static HeaviestFirst withStones(String text, int law, int... stones) {
-        HeaviestFirst x = Check.town(text, stones.length);
-        x.law(law);
-        for (int l = 0; l < stones.length; l++) {
-            x.stones(l, stones[l]);
-        }
-        return x;
     }
 
     private static void restsIsFresh() {
