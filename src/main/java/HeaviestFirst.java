@@ -731,7 +731,6 @@ public final class HeaviestFirst {
 
         void begin(Town town) {
             copyRow(town.stones, stones);
-            rounds = 0;
         }
 
         int bestStones(Town town, int l, int cost) {

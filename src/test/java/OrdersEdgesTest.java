@@ -8,7 +8,6 @@ public final class OrdersEdgesTest {
         endsAsked();
         endsOfNotAllTold();
         endsFromOneTo108();
-        endsOfLikeOnes();
         endsThereAreNone();
         writeAsked();
         bookOfThirty();
@@ -153,32 +152,6 @@ public final class OrdersEdgesTest {
         x.law(1);
         endsAre(x, 0, Check.NONE, Check.NONE);
         endsAre(x, 1, 1, 107);
-    }
-
-    private static void endsOfLikeOnes() {
-        Check.sentence("ENDS of a LETTER's HEAVY (LAW 0 or 1), all other ones as they are");
-        HeaviestFirst x = Check.town("place 0 0;letter 0 40 9 9;letter 0 50 9 9;letter 0 60 9 9;", 3);
-        x.came(2);
-        x.came(1);
-        x.came(0);
-        endsAre(x, 0, 1, 49);
-        endsAre(x, 1, 41, 59);
-        endsAre(x, 2, 51, 108);
-        // its own STONES do not count, the others' do
-        x.stones(1, 9);
-        endsAre(x, 0, 1, 58);
-        endsAre(x, 1, 41, 59);
-        endsAre(x, 2, 60, 108);
-        x.stones(0, 9);
-        endsAre(x, 1, 50, 59);
-        x.law(1);
-        x.tear();
-        x.came(0);
-        x.came(1);
-        x.came(2);
-        endsAre(x, 0, 1, 59);
-        endsAre(x, 1, 49, 60);
-        endsAre(x, 2, 59, 108);
     }
 
     private static void endsThereAreNone() {
