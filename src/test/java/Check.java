@@ -2,7 +2,7 @@ import java.util.HashSet;
 import java.util.Set;
 
 /** What every test here uses: counts answers that are not due, and ends with exit code 1 if there was one. */
-final class Check {
+public final class Check {
     static final int NONE = -1, UNKNOWN = -1000000001, OUTSIDE = -1000000002, NOT = -1000000003, FULL = -1000000004;
 
     private static int asked = 0;
@@ -33,7 +33,7 @@ final class Check {
         return under.isEmpty() ? "" : "[" + under + "] ";
     }
 
-    static void due(String call, long got, long want) {
+    public static void due(String call, long got, long want) {
         asked++;
         if (got != want) {
             wrong++;
