@@ -153,6 +153,7 @@ public final class TermsTest {
         Check.due("stone 0", Check.town("stone 0;", 0).told(2), 0);
         Check.due("stone 99", Check.town("stone 99;", 0).told(2), 99);
         Check.due("untold", Check.town(PLACES, 0).told(2), 1);
+        Check.due("no text yet", new HeaviestFirst().told(2), 1);
         Check.fault("stone 100;", 2, 6);
         Check.fault("stone 1;stone 1;", 3, 8);
     }
@@ -314,6 +315,13 @@ public final class TermsTest {
         inTimeIs(town(), 7, 19, 0, 2, 1);
         // 23 minutes by no STONES go ahead of 19 by 7
         inTimeIs(Check.town(TOWN.replace("20 6 9", "20 23 9"), 3), 0, 23, 1, 2, 0);
+        String line = "place 0 0;place 10 0;place 20 0;place 30 0;place 40 0;";
+        // one STONE in 1 brings about 0, 1, 2 of 20 minutes, one in 2 brings about 2, 0, 1 of 10
+        inTimeIs(Check.town(line + "letter 1 8 60 1;letter 1 7 20 1;letter 0 8 30 1;", 3), 1, 10, 2, 0, 1);
+        // one STONE in 3 brings about 1, 2, 3, 0, one in 1 brings about 3, 1, 2, 0, both of 40 minutes
+        x = Check.town(line + "letter 0 8 40 1;letter 1 5 70 1;letter 2 6 50 1;letter 0 5 80 1;", 4);
+        x.law(1);
+        inTimeIs(x, 1, 40, 1, 2, 3, 0);
         terms.says("NONE.");
         inTimeIs(Check.town(TOWN.replace("20 6 9", "20 4 9"), 3), Check.NONE, Check.NONE, Check.NONE);
     }
@@ -329,6 +337,8 @@ public final class TermsTest {
         Check.due("the others' do", x.answer(0), 4);
         x.stones(1, 2);
         Check.due("9 - 5 * 2 is less than 0", x.answer(0), 0);
+        Check.due("9 STONES", Check.town(PLACES + "letter 1 5 5 99;letter 2 14 99 1;", 2).answer(0), 9);
+        Check.due("10 cannot be", Check.town(PLACES + "letter 1 4 5 99;letter 2 14 99 1;", 2).answer(0), 0);
         terms.says("of like ones the fewest.");
         x = town();
         x.price(0);
@@ -345,6 +355,14 @@ public final class TermsTest {
         }
     }
 
+    private static HeaviestFirst withStones(String text, int... stones) {
+        HeaviestFirst x = Check.town(text, stones.length);
+        for (int l = 0; l < stones.length; l++) {
+            x.stones(l, stones[l]);
+        }
+        return x;
+    }
+
     private static void restsAndPrices() {
         terms.says("RESTS: rounds in which all senders in order take their BEST ANSWERS, from STONES as they are, till a round changes nothing (30 rounds at most):");
         // 0 takes 3, then 2 sees it and takes 3; 0 takes 4 to be ahead of it
@@ -358,6 +376,16 @@ public final class TermsTest {
         x = town();
         x.stones(1, 9);
         restsIs(x, 3, 10, 19, 4, 0, 3);
+        // a long way, found by search: the thirtieth round changes nothing
+        String longWay = "place 39 65;place 77 55;place 1 47;place 47 12;place 60 58;place 58 82;place 83 69;"
+                + "letter 3 2 204 43;letter 2 2 370 59;letter 2 3 244 72;letter 4 11 464 69;letter 2 3 642 82;"
+                + "letter 0 3 288 89;letter 6 3 223 57;stone 1;";
+        Check.due("29 rounds", withStones(longWay, 9, 9, 4, 8, 2, 9, 9).rests(-1), 29);
+        // and a longer one: the thirtieth still changes something
+        String longer = "place 95 60;place 10 83;place 61 75;place 42 98;place 1 33;place 67 8;place 93 14;"
+                + "letter 3 5 515 12;letter 0 7 124 89;letter 2 4 504 92;letter 4 5 319 29;letter 6 5 364 46;"
+                + "letter 3 6 164 51;letter 1 6 482 22;stone 1;";
+        Check.due("30 rounds", withStones(longer, 4, 9, 9, 7, 8, 7, 7).rests(-1), Check.NONE);
         terms.says("how many changed something;");
         x = town();
         x.price(99);
@@ -447,7 +475,9 @@ public final class TermsTest {
         Check.due("k", x.two(0), 2);
         terms.says("of like ones the least k;");
         Check.due("one LETTER: 0 is as good as 1", Check.town(PLACES + "letter 1 5 9 9;", 1).two(0), 0);
-        // 9 and 9, 18 and 0 and back: the first like one
+        // 0 and 24, 5 and 14, 10 and 14, 24 and 0
+        Check.due("1 is as good as 2", Check.town(PLACES + "letter 1 9 9 9;letter 0 8 9 9;letter 3 7 9 9;", 3).two(0), 1);
+        // 0 and 9, 9 and 9, 9 and 0
         Check.due("two to one PLACE", Check.town(PLACES + "letter 2 5 9 9;letter 2 5 9 9;", 2).two(0), 0);
         terms.says("how long.");
         Check.due("how long", x.two(1), 14);
@@ -515,22 +545,29 @@ public final class TermsTest {
         x.stones(0, 5);
         x.law(1);
         x.price(8);
-        x.seed(12);
+        x.seed(17);
         Check.due("keep(0)", x.keep(0), 1);
         x.drift(1);
         x.law(2);
         x.price(9);
         Check.due("keep(1)", x.keep(1), 1);
-        int weight = x.letter(0, 1);
+        int[] places = {x.letter(0, 0), x.letter(1, 0), x.letter(2, 0)};
+        int[] weights = {x.letter(0, 1), x.letter(1, 1), x.letter(2, 1)};
         Check.due("goBack(0)", x.goBack(0), 1);
         Check.due("W", x.letter(0, 1), 20);
-        Check.due("PLACE", x.letter(2, 0), 3);
+        for (int l = 0; l < 3; l++) {
+            Check.due("PLACE of " + l, x.letter(l, 0), l + 1);
+            Check.holds("another PLACE before: " + places[l], places[l] != l + 1);
+        }
         Check.due("STONES", x.letter(0, 4), 5);
         Check.due("LAW", x.told(4), 1);
         Check.due("C", x.told(2), 8);
-        Check.due("THE SEED", x.seed(0), 12);
+        Check.due("THE SEED", x.seed(0), 17);
         Check.due("goBack(1)", x.goBack(1), 1);
-        Check.due("W", x.letter(0, 1), weight);
+        for (int l = 0; l < 3; l++) {
+            Check.due("PLACE of " + l, x.letter(l, 0), places[l]);
+            Check.due("W of " + l, x.letter(l, 1), weights[l]);
+        }
         Check.due("STONES", x.letter(0, 4), 0);
         Check.due("LAW", x.told(4), 2);
         Check.due("C", x.told(2), 9);
